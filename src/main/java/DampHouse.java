@@ -252,7 +252,6 @@ public final class DampHouse {
         if (power > 99 || hour > HOURS || house.causeCount >= CAUSES) {
             return refuse(NO_ROOM);
         }
-        evidence.forget();
         return house.addCause(kind, at, power, hour);
     }
 

@@ -62,12 +62,14 @@ final class CausesTest {
     private static void sixtyReadings() {
         DampHouse x = withWall();
         x.wall(1, 0, 0, true);
+        x.hours(1);
         for (int i = 0; i < 60; i++) {
-            Check.due("its number", x.reading(i % 2, 0, i, 0), i);
+            Check.due("its number", x.reading(i % 2, i / 40, i, 0), i);
         }
-        Check.due("no room", x.reading(0, 0, 0, 0), -6);
+        Check.due("-3 ahead of no room", x.reading(0, 0, 0, 0), -3);
+        Check.due("no room", x.reading(0, 1, 0, 0), -6);
         Check.due("READINGS", x.count(2), 60);
-        Check.due("-4 ahead of no room", x.reading(0, 0, -1, 0), -4);
+        Check.due("-4 ahead of no room", x.reading(0, 1, -1, 0), -4);
     }
 
     private static void causes() {

@@ -111,8 +111,6 @@ final class FlatsTest {
             x.flat(i, i % 4, i / 4, i < 8 ? 1 : 0);
         }
         Check.due("two rows of four", x.joins(), 10);
-        // No eight of a four by four have more; eight rows of two (two ways to lie, three places each)
-        // and three by three less a corner.
         Check.due("ways of eight", x.chance(1), 12870);
         Check.due("ways as joined as that", x.chance(0), waysBySixteenBits(8, 10));
     }

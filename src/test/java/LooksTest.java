@@ -6,6 +6,7 @@ final class LooksTest {
         answers();
         answersToAnySet();
         nextByPriceAndWhatIsLeft();
+        nextOfFew();
         nextOfSeveral();
         nextWithoutRivals();
         planOfOne();
@@ -102,6 +103,20 @@ final class LooksTest {
         Check.due("the last", x.next(), 1);
         x.answer(1, true);
         Check.due("no LOOK is left", x.next(), -9);
+    }
+
+    private static void nextOfFew() {
+        DampHouse x = new DampHouse();
+        x.wall(0, 0, 0, false);
+        x.cause(1, 0, 50, 0);
+        x.cause(3, 0, 1, 0);
+        x.hours(1);
+        x.reading(0, 1, 48, 0);
+        x.look(1, 5);
+        x.look(2, 9);
+        x.look(3, 6);
+        // {0} and {0, 1} are left: 5 times 2, 9 times 1, 6 times 2.
+        Check.due("the dearer one, as it parts", x.next(), 1);
     }
 
     private static void nextOfSeveral() {

@@ -123,6 +123,9 @@ final class RoomsTest {
         Check.due("made missing", x.outside(20, 0, 99), 30);
         Check.due("missing again", x.weather(25, 0), 3);
         Check.due("was missing", x.outside(20, 0, 99), 99);
+        x.outside(11, 0, 7);
+        Check.due("made missing just behind", x.outside(11, 0, 99), 7);
+        Check.due("as the HOUR ahead", x.weather(11, 0), 3);
         Check.due("first hour", x.outside(0, 0, 0), 99);
         Check.due("from the first hour", x.weather(9, 0), 0);
         Check.due("last hour", x.outside(599, 1, 0), 99);

@@ -166,6 +166,7 @@ final class TaleTest {
         DampHouse x = pipes();
         x.hours(1);
         x.reading(0, 2, 0, 0);
+        Check.due("nothing", x.off(0), 0);
         Check.due("15 less 8", x.off(1), 7);
         x.dry(1);
         Check.due("DRY of now", x.off(1), 18);
@@ -173,9 +174,9 @@ final class TaleTest {
         Check.due("MADE of now", x.off(0), 45);
         x.room(0, 2, 0);
         Check.due("GAPS of now", x.off(0), 117);
-        x.outside(0, 0, 30);
-        Check.due("OUTSIDE of now", x.off(0), 117);
         x.room(0, 2, 10);
+        Check.due("GAPS as they were", x.off(0), 45);
+        x.outside(0, 0, 30);
         // OUT is 840: 84, then 1083 less 24 is 1059: 179 above.
         Check.due("OUTSIDE of now", x.off(0), 177);
         x.wall(0, 2, 0, false);

@@ -6,6 +6,7 @@ final class WallsTest {
         chillNow();
         sharesByChill();
         leftoverToTheLeastWall();
+        shareOfTheLastWall();
         warmOutsideGivesAllToTheLeast();
         wallsOfOtherRooms();
         drying();
@@ -109,6 +110,26 @@ final class WallsTest {
         Check.due("a share", x.wallOf(7, 3), 65);
         Check.due("a share", x.wallOf(8, 3), 65);
         Check.due("a share", x.wallOf(9, 3), 65);
+    }
+
+    private static void shareOfTheLastWall() {
+        DampHouse x = giving(90);
+        x.wall(0, 0, 50, true);
+        x.wall(11, 0, 100, true);
+        x.hours(1);
+        // CHILLS 6 and 13: 28 and 61, and 1 left over to WALL 0; each dries by 1.
+        Check.due("the first wall", x.wallOf(0, 3), 28);
+        Check.due("the last wall", x.wallOf(11, 3), 60);
+        DampHouse y = giving(90);
+        y.wall(3, 0, 0, true);
+        y.wall(5, 0, 8, true);
+        y.hours(1);
+        Check.due("no CHILL, nothing left over", y.wallOf(3, 3), 0);
+        Check.due("the only CHILL, though just 1", y.wallOf(5, 3), 89);
+        DampHouse z = giving(90);
+        z.wall(11, 0, 0, true);
+        z.hours(1);
+        Check.due("the only wall", z.wallOf(11, 3), 89);
     }
 
     private static void warmOutsideGivesAllToTheLeast() {
