@@ -704,7 +704,7 @@ public final class DampHouse {
             if (t >= 0) {
                 return 5 + t / 2 + t * t / 40;
             }
-            int held = 5 - -t / 5;
+            int held = 5 - Math.abs(t) / 5;
             return held < 1 ? 1 : held;
         }
 

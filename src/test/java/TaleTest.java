@@ -224,6 +224,11 @@ final class TaleTest {
         z.cause(1, 0, 20, 0);
         z.reading(0, 1, 10, 0);
         Check.due("the least as bits", z.best(), 2);
+        DampHouse few = pipes();
+        few.cause(1, 0, 30, 0);
+        few.reading(0, 1, 15, 0);
+        Check.due("the fewest, though greater as bits", few.best(), 8);
+        Check.due("the only SIMPLE set", few.simple(0), 1);
         DampHouse far = pipes();
         far.reading(0, 1, 99999, 0);
         Check.due("none FITS", far.best(), 3);
