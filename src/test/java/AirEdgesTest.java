@@ -1,4 +1,4 @@
-/** Part I of the document, one test a sentence that names an edge: HOURS, ROOMS, OUTSIDE, HOLDS, MADE, how an HOUR passes. */
+/** Part I of the document, one test a sentence that names an edge: ROOMS, OUTSIDE, HOLDS, MADE, how HOURS pass. */
 final class AirEdgesTest {
     public static void main(String[] args) {
         hoursFromNoughtTo600();
@@ -317,7 +317,7 @@ final class AirEdgesTest {
         Check.due("by 30 warmer outside", chill(0, 30, 100), 0);
     }
 
-    /** "each gets as much of it as its CHILL is of all CHILLS together, cut; what is left over .. goes to the least WALL" */
+    /** "as much of it as its CHILL is of all CHILLS together, cut; what is left over .. goes to the least WALL" */
     private static void sharesAreCut() {
         DampHouse x = closed(882);
         x.dry(1);

@@ -16,24 +16,16 @@ final class LookEdgesTest {
         planOfOneRival();
         planIfNoLookParts();
         planByWhatCame();
+        planByTheLastLooks();
         planOfTheWorstCase();
         planAtTheMost();
         planOfThoseNotAnswered();
         Check.finish();
     }
 
-    /** So many CAUSES that no READING tells apart, so that every set is a RIVAL. */
-    private static DampHouse withCauses(int n) {
-        DampHouse x = new DampHouse();
-        for (int i = 0; i < n; i++) {
-            x.cause(3, 0, 1, 0);
-        }
-        return x;
-    }
-
     /** "LOOKS that could be made have numbers from 0 on (8 at most)" */
     private static void eightLooks() {
-        DampHouse x = withCauses(3);
+        DampHouse x = States.withCauses(3);
         Check.due("no LOOK is there", x.answer(0, true), -1);
         for (int i = 0; i < 8; i++) {
             Check.due("from 0 on", x.look(1, 1), i);
@@ -46,7 +38,7 @@ final class LookEdgesTest {
 
     /** "a PRICE (1 .. 999)" */
     private static void priceAtItsLeastAndMost() {
-        DampHouse x = withCauses(1);
+        DampHouse x = States.withCauses(1);
         Check.due("0", x.look(1, 0), -4);
         Check.due("1000", x.look(1, 1000), -6);
         Check.due("999", x.look(1, 999), 0);
@@ -57,17 +49,17 @@ final class LookEdgesTest {
 
     /** "a set of CAUSES that would make it answer yes": bits of CAUSES 0 .. 5. */
     private static void setsOfNoneAndOfAll() {
-        DampHouse x = withCauses(6);
+        DampHouse x = States.withCauses(6);
         x.look(0, 1);
         x.look(63, 1);
         x.look(32, 1);
         Check.due("CAUSE 5", x.answer(2, true), 32);
         Check.due("some CAUSE", x.answer(1, true), 32);
         Check.due("a set of none says no", x.answer(0, false), 32);
-        DampHouse y = withCauses(6);
+        DampHouse y = States.withCauses(6);
         y.look(63, 1);
         Check.due("no CAUSE at all", y.answer(0, false), 1);
-        DampHouse z = withCauses(1);
+        DampHouse z = States.withCauses(1);
         z.look(62, 1);
         Check.due("CAUSES that are not there say no", z.answer(0, false), 2);
         z.cause(3, 0, 1, 0);
@@ -78,13 +70,13 @@ final class LookEdgesTest {
     private static void rivalsOfTheFirstSix() {
         int[] due = {1, 2, 4, 8, 16, 32, 64, 64, 64, 64, 64};
         for (int n = 0; n <= 10; n++) {
-            Check.due("of " + n, withCauses(n).rivals(), due[n]);
+            Check.due("of " + n, States.withCauses(n).rivals(), due[n]);
         }
     }
 
     /** "NEXT: .. is least, of several the least" */
     private static void nextOfEquals() {
-        DampHouse x = withCauses(3);
+        DampHouse x = States.withCauses(3);
         x.look(1, 7);
         x.look(2, 7);
         x.look(7, 4);
@@ -102,7 +94,7 @@ final class LookEdgesTest {
 
     /** "PRICE times (the greater number of RIVALS that it would leave)" */
     private static void nextByTheGreaterNumber() {
-        DampHouse x = withCauses(2);
+        DampHouse x = States.withCauses(2);
         x.look(3, 5);
         // Yes leaves 3 of 4: 15.
         x.look(1, 8);
@@ -117,7 +109,7 @@ final class LookEdgesTest {
 
     /** One RIVAL is enough for a NEXT. */
     private static void nextOfOneRival() {
-        DampHouse x = withCauses(0);
+        DampHouse x = States.withCauses(0);
         x.look(1, 9);
         x.look(2, 8);
         Check.due("the cheapest", x.next(), 1);
@@ -126,7 +118,7 @@ final class LookEdgesTest {
 
     /** "-9 no LOOK is left, or no RIVALS" */
     private static void nextWithoutLooksOrRivals() {
-        DampHouse x = withCauses(1);
+        DampHouse x = States.withCauses(1);
         Check.due("no LOOKS", x.next(), -9);
         x.look(1, 1);
         Check.due("one", x.next(), 0);
@@ -140,7 +132,7 @@ final class LookEdgesTest {
     }
 
     private static void answeredOnce() {
-        DampHouse x = withCauses(1);
+        DampHouse x = States.withCauses(1);
         x.look(1, 1);
         Check.due("no", x.answer(0, false), 1);
         Check.due("it was", x.answer(0, true), -3);
@@ -151,7 +143,7 @@ final class LookEdgesTest {
 
     /** "RIVALS are those that FIT and answer so to all LOOKS that were answered." */
     private static void answersThatLeaveNone() {
-        DampHouse x = withCauses(2);
+        DampHouse x = States.withCauses(2);
         x.look(1, 1);
         x.look(1, 1);
         x.look(2, 5);
@@ -180,7 +172,7 @@ final class LookEdgesTest {
 
     /** "(0 without RIVALS)" */
     private static void planWithoutRivals() {
-        DampHouse x = withCauses(2);
+        DampHouse x = States.withCauses(2);
         x.look(1, 9);
         x.wall(0, 0, 0, false);
         Check.due("with RIVALS", x.plan(), 9);
@@ -190,7 +182,7 @@ final class LookEdgesTest {
 
     /** "until one RIVAL is left" */
     private static void planOfOneRival() {
-        DampHouse x = withCauses(1);
+        DampHouse x = States.withCauses(1);
         x.look(1, 9);
         x.look(1, 8);
         Check.due("one LOOK leaves one", x.plan(), 8);
@@ -200,7 +192,7 @@ final class LookEdgesTest {
 
     /** "or no LOOK parts those that are left" */
     private static void planIfNoLookParts() {
-        DampHouse x = withCauses(2);
+        DampHouse x = States.withCauses(2);
         Check.due("no LOOKS", x.plan(), 0);
         x.look(0, 9);
         x.look(60, 9);
@@ -209,8 +201,8 @@ final class LookEdgesTest {
         Check.due("three RIVALS stay together", x.plan(), 4);
     }
 
-    /** "asked one behind the other, which next by what came" */
-    private static void planByWhatCame() {
+    /** The sets {0}, {1, 2} and {1, 3} FIT. */
+    private static DampHouse withThreeRivals() {
         DampHouse x = new DampHouse();
         x.wall(0, 0, 0, false);
         int[] powers = {30, 10, 20, 20};
@@ -219,6 +211,12 @@ final class LookEdgesTest {
         }
         x.hours(1);
         x.reading(0, 1, 28, 0);
+        return x;
+    }
+
+    /** "asked one behind the other, which next by what came" */
+    private static void planByWhatCame() {
+        DampHouse x = withThreeRivals();
         Check.due("{0}, {1, 2} and {1, 3}", x.rivals(), 3);
         x.look(1, 1);
         Check.due("{0} or not", x.plan(), 1);
@@ -230,9 +228,27 @@ final class LookEdgesTest {
         Check.due("no that ends it, yes asks the other", x.plan(), 50);
     }
 
+    /** Only the last two of eight LOOKS part anything. */
+    private static void planByTheLastLooks() {
+        DampHouse x = withThreeRivals();
+        for (int i = 0; i < 6; i++) {
+            x.look(i % 2 == 0 ? 0 : 15, 1);
+        }
+        x.look(4, 50);
+        x.look(1, 1);
+        Check.due("yes ends it, no asks the other", x.plan(), 51);
+        DampHouse y = withThreeRivals();
+        for (int i = 0; i < 6; i++) {
+            y.look(i % 2 == 0 ? 0 : 15, 1);
+        }
+        y.look(4, 50);
+        y.look(2, 1);
+        Check.due("no ends it, yes asks the other", y.plan(), 51);
+    }
+
     /** "the sum of PRICES in the worst case, that least" */
     private static void planOfTheWorstCase() {
-        DampHouse x = withCauses(2);
+        DampHouse x = States.withCauses(2);
         x.look(1, 10);
         x.look(2, 10);
         x.look(3, 10);
@@ -244,14 +260,14 @@ final class LookEdgesTest {
     }
 
     private static void planAtTheMost() {
-        DampHouse x = withCauses(6);
+        DampHouse x = States.withCauses(6);
         for (int i = 0; i < 6; i++) {
             x.look(1 << i, 999);
         }
         x.look(3, 999);
         x.look(48, 999);
         Check.due("six of the dearest", x.plan(), 5994);
-        DampHouse y = withCauses(6);
+        DampHouse y = States.withCauses(6);
         for (int i = 0; i < 8; i++) {
             y.look((1 << Math.min(6, i + 1)) - 1, 999);
         }
@@ -261,7 +277,7 @@ final class LookEdgesTest {
 
     /** "LOOKS that are not ANSWERED" */
     private static void planOfThoseNotAnswered() {
-        DampHouse x = withCauses(3);
+        DampHouse x = States.withCauses(3);
         x.look(1, 5);
         x.look(2, 6);
         x.look(4, 7);

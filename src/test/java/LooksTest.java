@@ -17,17 +17,8 @@ final class LooksTest {
         Check.finish();
     }
 
-    /** So many CAUSES, and no READINGS, so that every set is a RIVAL. */
-    private static DampHouse withCauses(int n) {
-        DampHouse x = new DampHouse();
-        for (int i = 0; i < n; i++) {
-            x.cause(3, 0, 1, 0);
-        }
-        return x;
-    }
-
     private static void tellingLooks() {
-        DampHouse x = withCauses(2);
+        DampHouse x = States.withCauses(2);
         Check.due("a set of none", x.look(0, 1), 0);
         Check.due("CAUSES that are not there", x.look(63, 999), 1);
         for (int i = 2; i < 8; i++) {
@@ -40,7 +31,7 @@ final class LooksTest {
     }
 
     private static void lookRefusals() {
-        DampHouse x = withCauses(6);
+        DampHouse x = States.withCauses(6);
         Check.due("other bits, ahead of -4", x.look(64, 0), -2);
         Check.due("other bits", x.look(-1, 1), -2);
         Check.due("price below", x.look(1, 0), -4);
@@ -52,7 +43,7 @@ final class LooksTest {
     }
 
     private static void answers() {
-        DampHouse x = withCauses(3);
+        DampHouse x = States.withCauses(3);
         x.look(1, 1);
         x.look(6, 1);
         Check.due("rivals", x.rivals(), 8);
@@ -72,7 +63,7 @@ final class LooksTest {
     }
 
     private static void answersToAnySet() {
-        DampHouse x = withCauses(6);
+        DampHouse x = States.withCauses(6);
         x.look(0, 1);
         x.look(63, 1);
         x.look(5, 1);
@@ -83,7 +74,7 @@ final class LooksTest {
     }
 
     private static void nextByPriceAndWhatIsLeft() {
-        DampHouse x = withCauses(3);
+        DampHouse x = States.withCauses(3);
         Check.due("no LOOKS", x.next(), -9);
         x.look(1, 9);
         Check.due("the only one", x.next(), 0);
@@ -120,7 +111,7 @@ final class LooksTest {
     }
 
     private static void nextOfSeveral() {
-        DampHouse x = withCauses(2);
+        DampHouse x = States.withCauses(2);
         x.look(3, 4);
         x.look(2, 6);
         x.look(1, 6);
@@ -132,7 +123,7 @@ final class LooksTest {
     }
 
     private static void nextWithoutRivals() {
-        DampHouse x = withCauses(1);
+        DampHouse x = States.withCauses(1);
         x.look(1, 1);
         x.wall(0, 0, 0, false);
         x.reading(0, 0, 1, 0);
@@ -141,7 +132,7 @@ final class LooksTest {
     }
 
     private static void planOfOne() {
-        DampHouse x = withCauses(1);
+        DampHouse x = States.withCauses(1);
         Check.due("no LOOKS", x.plan(), 0);
         x.look(0, 5);
         Check.due("none parts", x.plan(), 0);
@@ -154,7 +145,7 @@ final class LooksTest {
     }
 
     private static void planByWhatCame() {
-        DampHouse x = withCauses(2);
+        DampHouse x = States.withCauses(2);
         x.look(3, 1);
         x.look(1, 10);
         x.look(2, 10);
@@ -166,7 +157,7 @@ final class LooksTest {
     }
 
     private static void planIsTheWorstCase() {
-        DampHouse x = withCauses(2);
+        DampHouse x = States.withCauses(2);
         x.wall(0, 0, 0, false);
         x.cause(1, 0, 10, 0);
         x.hours(1);
@@ -181,7 +172,7 @@ final class LooksTest {
     }
 
     private static void planIgnoresWhatPartsNothing() {
-        DampHouse x = withCauses(2);
+        DampHouse x = States.withCauses(2);
         x.look(1, 3);
         Check.due("sets that no LOOK parts are left", x.plan(), 3);
         x.answer(0, false);
@@ -190,7 +181,7 @@ final class LooksTest {
     }
 
     private static void planWithEightLooks() {
-        DampHouse x = withCauses(6);
+        DampHouse x = States.withCauses(6);
         for (int i = 0; i < 6; i++) {
             x.look(1 << i, 10 + i);
         }

@@ -277,7 +277,8 @@ final class RefusalsTest {
                     asTold ? 1000000000L - due : due);
         }
         counted(x, counts, name);
-        Check.dueThat("refused calls of " + name + " change nothing", States.seenOf(x).equals(States.seenOf(state.get())));
+        Check.dueThat("refused calls of " + name + " change nothing",
+                States.seenOf(x).equals(States.seenOf(state.get())));
     }
 
     private static int[] counts(DampHouse x) {

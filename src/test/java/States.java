@@ -3,6 +3,25 @@ final class States {
     private States() {
     }
 
+    /** So many CAUSES, which no READING tells apart, so that every set is a RIVAL. */
+    static DampHouse withCauses(int n) {
+        DampHouse x = new DampHouse();
+        for (int i = 0; i < n; i++) {
+            x.cause(3, 0, 1, 0);
+        }
+        return x;
+    }
+
+    /** A PIPE of 99 at WALL 0 with DRY of a half: DAMP is 49, 74, 86, 92, 95, 97, 98, 98 .. at the ends of HOURS. */
+    static DampHouse dripping() {
+        DampHouse x = new DampHouse();
+        x.wall(0, 0, 0, false);
+        x.dry(50);
+        x.cause(1, 0, 99, 0);
+        x.truth(0, true);
+        return x;
+    }
+
     /**
      * At HOUR 50: WALLS 0 and 11 (OUTER) and 1 (not), CAUSES 0 to 2, LOOKS 0 to 2 (1 is ANSWERED), READINGS in
      * HOURS 40 and 45; every ROOM has TRIALS in 10 .. 20 (0 to 5), 45 .. 55 (6 to 11) and 60 .. 70 (12 to 17).

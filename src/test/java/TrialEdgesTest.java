@@ -182,18 +182,8 @@ final class TrialEdgesTest {
         Check.due("no room, though all have ended", x.trial(1, 1, 0, 20, 21), -6);
     }
 
-    /** DAMP of WALL 0 at the ends of HOURS: 49, 74, 86, 92, 95, 97, 98 .. */
-    private static DampHouse withPipe() {
-        DampHouse x = new DampHouse();
-        x.wall(0, 0, 0, false);
-        x.dry(50);
-        x.cause(1, 0, 99, 0);
-        x.truth(0, true);
-        return x;
-    }
-
     private static DampHouse tried(int from, int to) {
-        DampHouse x = withPipe();
+        DampHouse x = States.dripping();
         x.trial(0, 0, 0, from, to);
         x.hours(to);
         return x;
@@ -230,7 +220,7 @@ final class TrialEdgesTest {
 
     /** "0 without .. WALLS)" */
     private static void noWalls() {
-        DampHouse x = withPipe();
+        DampHouse x = States.dripping();
         x.trial(1, 0, 0, 1, 2);
         x.hours(2);
         for (int what = 0; what < 3; what++) {

@@ -135,18 +135,8 @@ final class TrialsTest {
         Check.due("the last has ended", x.trialOf(19, 0), 0);
     }
 
-    /** A PIPE of 99 at WALL 0 with DRY of a half: 49, 74, 86, 92, 95, 97, 98, 98 .. */
-    private static DampHouse withPipe() {
-        DampHouse x = new DampHouse();
-        x.wall(0, 0, 0, false);
-        x.dry(50);
-        x.cause(1, 0, 99, 0);
-        x.truth(0, true);
-        return x;
-    }
-
     private static void means() {
-        DampHouse x = withPipe();
+        DampHouse x = States.dripping();
         x.trial(0, 0, 0, 2, 4);
         x.hours(4);
         Check.due("86 and 92", x.trialOf(0, 0), 89);
@@ -158,7 +148,7 @@ final class TrialsTest {
     }
 
     private static void meansOfSeveralWalls() {
-        DampHouse x = withPipe();
+        DampHouse x = States.dripping();
         x.wall(1, 0, 0, false);
         x.wall(2, 1, 0, false);
         x.trial(0, 0, 0, 1, 2);
@@ -174,12 +164,12 @@ final class TrialsTest {
     }
 
     private static void meansWithFewerHoursAhead() {
-        DampHouse x = withPipe();
+        DampHouse x = States.dripping();
         x.trial(0, 0, 0, 1, 4);
         x.hours(4);
         Check.due("74, 86, 92", x.trialOf(0, 0), 84);
         Check.due("49 alone", x.trialOf(0, 1), 49);
-        DampHouse y = withPipe();
+        DampHouse y = States.dripping();
         y.trial(0, 0, 0, 0, 2);
         y.hours(2);
         Check.due("no HOURS ahead", y.trialOf(0, 1), 0);
@@ -188,7 +178,7 @@ final class TrialsTest {
     }
 
     private static void meansGoByTheWallsOfNow() {
-        DampHouse x = withPipe();
+        DampHouse x = States.dripping();
         x.wall(1, 3, 0, false);
         x.trial(3, 0, 0, 1, 2);
         x.hours(2);
@@ -203,7 +193,7 @@ final class TrialsTest {
     }
 
     private static void helped() {
-        DampHouse x = withPipe();
+        DampHouse x = States.dripping();
         x.hours(1);
         x.truth(0, false);
         x.trial(0, 0, 0, 1, 2);
@@ -211,7 +201,7 @@ final class TrialsTest {
         Check.due("24", x.trialOf(0, 0), 24);
         Check.due("49", x.trialOf(0, 1), 49);
         Check.due("it helped", x.trialOf(0, 2), 1);
-        DampHouse y = withPipe();
+        DampHouse y = States.dripping();
         y.hours(10);
         y.trial(0, 0, 0, 10, 12);
         y.hours(2);
