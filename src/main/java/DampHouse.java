@@ -95,7 +95,7 @@ public final class DampHouse {
             return was;
         }
         evidence.forget();
-        return house.rooms[room].change(what, v);
+        return house.changeRoom(room, what, v);
     }
 
     public int made(int room, int hour, int v) {
@@ -333,7 +333,7 @@ public final class DampHouse {
     }
 
     public int answer(int look, boolean yes) {
-        if (look < 0 || look >= looks.size) {
+        if (look < 0 || look >= looks.size || look >= LOOKS) {
             return refuse(NOBODY);
         }
         if (looks.answers[look] != UNSAID) {
@@ -378,7 +378,7 @@ public final class DampHouse {
     }
 
     public int trialOf(int trial, int what) {
-        if (trial < 0 || trial >= trialCount) {
+        if (trial < 0 || trial >= trialCount || trial >= TRIALS) {
             return refuse(NOBODY);
         }
         if (what < 0 || what > 2) {
@@ -461,7 +461,7 @@ public final class DampHouse {
         if (rule == NONE) {
             return NONE;
         }
-        return what == 0 ? day + law.daysOf(rule) : law.ruleWho[rule];
+        return what == 0 ? day + law.daysOf(rule) : law.whoOf(rule);
     }
 
     public int quarrel(int kind) {
@@ -523,25 +523,25 @@ public final class DampHouse {
     }
 
     private void beginTrials() {
-        for (int i = 0; i < trialCount; i++) {
+        for (int i = 0; i < trialCount && i < TRIALS; i++) {
             Trial each = trials[i];
             if (each.from == hour) {
-                each.before = house.rooms[each.room].change(each.setting, each.value);
+                each.before = house.changeRoom(each.room, each.setting, each.value);
             }
         }
     }
 
     private void endTrials() {
-        for (int i = 0; i < trialCount; i++) {
+        for (int i = 0; i < trialCount && i < TRIALS; i++) {
             Trial each = trials[i];
             if (each.to == hour) {
-                house.rooms[each.room].change(each.setting, each.before);
+                house.changeRoom(each.room, each.setting, each.before);
             }
         }
     }
 
     private boolean hasTrialIn(int room, int from, int to) {
-        for (int i = 0; i < trialCount; i++) {
+        for (int i = 0; i < trialCount && i < TRIALS; i++) {
             Trial each = trials[i];
             // Without the first test a span with no HOURS in it would meet a TRIAL.
             if (from < to && each.room == room && from < each.to && each.from < to) {
@@ -624,7 +624,7 @@ public final class DampHouse {
         final int[] dampAfter = new int[HOURS];
 
         boolean isTold() {
-            return room != NONE;
+            return isRoom(room);
         }
 
         int chillAt(int degreesApart) {
@@ -700,6 +700,10 @@ public final class DampHouse {
             }
         }
 
+        int changeRoom(int room, int what, int v) {
+            return isRoom(room) ? rooms[room].change(what, v) : 0;
+        }
+
         static int gramsHeld(int t) {
             if (t >= 0) {
                 return 5 + t / 2 + t * t / 40;
@@ -759,7 +763,7 @@ public final class DampHouse {
         }
 
         boolean hasKindIn(int set, int kind) {
-            for (int i = 0; i < causeCount; i++) {
+            for (int i = 0; i < causeCount && i < CAUSES; i++) {
                 if ((set >> i & 1) != 0 && causes[i].kind == kind) {
                     return true;
                 }
@@ -821,7 +825,7 @@ public final class DampHouse {
 
         // All ROOMS at once: what is breathed in one changes no other.
         private void breathe(State state, int hour) {
-            for (int i = 0; i < causeCount; i++) {
+            for (int i = 0; i < causeCount && i < CAUSES; i++) {
                 if (causes[i].kind == BREATH_CAUSE && acts(state, i, hour)) {
                     state.addWet(causes[i].at, causes[i].power);
                 }
@@ -867,7 +871,7 @@ public final class DampHouse {
         }
 
         private void soakWalls(State state, int hour) {
-            for (int i = 0; i < causeCount; i++) {
+            for (int i = 0; i < causeCount && i < CAUSES; i++) {
                 if (causes[i].kind != BREATH_CAUSE && acts(state, i, hour)) {
                     state.addDamp(causes[i].at, soakedBy(causes[i], hour));
                 }
@@ -1214,11 +1218,11 @@ public final class DampHouse {
     private static final class Law {
         private final int[] ruleDay = new int[RULES];
         private final int[] ruleKind = new int[RULES];
+        private final int[] ruleWho = new int[RULES];
         private final int[] ruleWithin = new int[RULES];
         private final int[] ownerSaid = new int[KINDS];
         private final int[] dwellerSaid = new int[KINDS];
         private final int[] latestYes = new int[KINDS];
-        final int[] ruleWho = new int[RULES];
         boolean hasChild;
         int size;
 
@@ -1277,6 +1281,10 @@ public final class DampHouse {
                 return 0;
             }
             return hasChild ? (ruleWithin[rule] + 1) / 2 : ruleWithin[rule];
+        }
+
+        int whoOf(int rule) {
+            return rule < 0 || rule >= RULES ? NONE : ruleWho[rule];
         }
     }
 }
