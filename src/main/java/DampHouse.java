@@ -119,12 +119,17 @@ public final class DampHouse {
         if (what != 0 && what != 1) {
             return refuseAsTold(OTHER);
         }
-        int least = what == 0 ? COLDEST : 0;
-        int most = what == 0 ? WARMEST : MOST_RAIN;
-        if (hour < 0 || v < least) {
+        // The document tells "-4, -6 HOUR, v" here alone: both of HOUR, then both of v.
+        if (hour < 0) {
             return refuseAsTold(BELOW);
         }
-        if (hour >= HOURS || (v > most && v != MISSING)) {
+        if (hour >= HOURS) {
+            return refuseAsTold(NO_ROOM);
+        }
+        if (v < (what == 0 ? COLDEST : 0)) {
+            return refuseAsTold(BELOW);
+        }
+        if (v > (what == 0 ? WARMEST : MOST_RAIN) && v != MISSING) {
             return refuseAsTold(NO_ROOM);
         }
         evidence.forget();
