@@ -119,17 +119,13 @@ public final class DampHouse {
         if (what != 0 && what != 1) {
             return refuseAsTold(OTHER);
         }
-        // The document tells "-4, -6 HOUR, v" here alone: both of HOUR, then both of v.
-        if (hour < 0) {
+        int least = what == 0 ? COLDEST : 0;
+        int most = what == 0 ? WARMEST : MOST_RAIN;
+        // -4 is told ahead of -6, whichever of the two numbers it is of.
+        if (hour < 0 || v < least) {
             return refuseAsTold(BELOW);
         }
-        if (hour >= HOURS) {
-            return refuseAsTold(NO_ROOM);
-        }
-        if (v < (what == 0 ? COLDEST : 0)) {
-            return refuseAsTold(BELOW);
-        }
-        if (v > (what == 0 ? WARMEST : MOST_RAIN) && v != MISSING) {
+        if (hour >= HOURS || (v > most && v != MISSING)) {
             return refuseAsTold(NO_ROOM);
         }
         evidence.forget();

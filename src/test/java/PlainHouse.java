@@ -183,10 +183,8 @@ final class PlainHouse {
 
     private long outside(int hour, int what, int v) {
         refuseIf(!within(what, 0, 1), -2);
-        refuseIf(hour < 0, -4);
-        refuseIf(hour > 599, -6);
-        refuseIf(v < (what == 0 ? -20 : 0), -4);
-        refuseIf(v != 99 && v > (what == 0 ? 30 : 20), -6);
+        refuseIf(hour < 0 || v < (what == 0 ? -20 : 0), -4);
+        refuseIf(hour > 599 || v != 99 && v > (what == 0 ? 30 : 20), -6);
         Map<Integer, Integer> told = what == 0 ? cold : rain;
         Integer was = v == 99 ? told.remove(hour) : told.put(hour, v);
         return was == null ? 99 : was;

@@ -61,13 +61,6 @@ final class RefusalsTest {
         return new Choice(new int[] {first, second}, refusals);
     }
 
-    private static Choice[] forNothingBut(int refusal, Choice[] choices) {
-        Choice[] kept = new Choice[choices.length];
-        Arrays.setAll(kept, i -> new Choice(choices[i].numbers,
-                Arrays.stream(choices[i].refusals).filter(each -> each == refusal).toArray()));
-        return kept;
-    }
-
     private static Choice[] flags() {
         return new Choice[] {one(0), one(1)};
     }
@@ -95,16 +88,12 @@ final class RefusalsTest {
                 two(4, LOW, -4), two(4, -1, -4), two(4, 0), two(4, 1), two(4, 2, -6), two(4, HIGH, -6),
                 two(5, LOW, -4), two(5, -1, -4), two(5, 0), two(5, 99999), two(5, 100000, -6), two(5, HIGH, -6)));
         busy("made", -1, -4, -6).hold(upTo(5, -1), upTo(23, -1), range(0, 999));
-        Choice[] coldAndRain = all(
+        busy("outside", -2, -4, -6).hold(range(0, 599), all(
                 two(-1, 0, -2), two(2, -21, -2, -4), two(2, 31, -2, -6), two(LOW, 99, -2), two(HIGH, 99, -2),
                 two(0, LOW, -4), two(0, -21, -4), two(0, -20), two(0, 30), two(0, 31, -6), two(0, 98, -6),
                 two(0, 99), two(0, 100, -6), two(0, HIGH, -6),
                 two(1, LOW, -4), two(1, -1, -4), two(1, 0), two(1, 20), two(1, 21, -6), two(1, 98, -6),
-                two(1, 99), two(1, 100, -6), two(1, HIGH, -6));
-        busy("outside", -2, -4, -6).hold(all(one(0), one(599)), coldAndRain);
-        // Where HOUR is wrong its number counts ahead of that of v.
-        busy("outside", -2, -4, -6).hold(all(one(LOW, -4), one(-1, -4), one(600, -6), one(HIGH, -6)),
-                forNothingBut(-2, coldAndRain));
+                two(1, 99), two(1, 100, -6), two(1, HIGH, -6)));
         busy("weather", -2, -4, -6).hold(range(0, 599), upTo(1, -2));
         busy("holds", -4, -6).hold(range(-20, 30));
         busy("wet", -1).hold(upTo(5, -1));

@@ -147,17 +147,19 @@ final class RoomsTest {
         Check.due("above missing", x.outside(0, 0, 100), 1000000006);
         Check.due("rain below", x.outside(0, 1, -1), 1000000004);
         Check.due("rain above", x.outside(0, 1, 21), 1000000006);
-        Check.due("hour ahead of cold", x.outside(600, 0, -21), 1000000006);
-        Check.due("hour ahead of rain", x.outside(600, 1, -1), 1000000006);
-        Check.due("hour ahead of cold", x.outside(-1, 0, 31), 1000000004);
+        Check.due("-4 of v ahead of -6 of hour", x.outside(600, 0, -21), 1000000004);
+        Check.due("-4 of v ahead of -6 of hour", x.outside(600, 1, -1), 1000000004);
+        Check.due("-4 of v ahead of -6 of hour", x.outside(52772284, 0, -469447762), 1000000004);
+        Check.due("-4 of hour ahead of -6 of v", x.outside(-1, 0, 31), 1000000004);
+        Check.due("-4 of hour ahead of -6 of v", x.outside(-1, 1, 21), 1000000004);
         Check.due("weather: what", x.weather(-1, 2), 1000000002);
         Check.due("weather: what", x.weather(0, -1), 1000000002);
         Check.due("weather: hour below", x.weather(-1, 0), 1000000004);
         Check.due("weather: hour above", x.weather(600, 1), 1000000006);
         Check.due("nothing told", x.weather(0, 0), 5);
         Check.due("refusals -2", x.count(12), 4);
-        Check.due("refusals -4", x.count(14), 5);
-        Check.due("refusals -6", x.count(16), 8);
+        Check.due("refusals -4", x.count(14), 9);
+        Check.due("refusals -6", x.count(16), 6);
     }
 
     private static void holdsAtAllWarmths() {
