@@ -11,7 +11,7 @@ final class RandomRunsTest {
     private final Random random;
     private final DampHouse house = new DampHouse();
     private final PlainHouse plain = new PlainHouse();
-    /** The longest step of HOURS, and in how many of a hundred calls a number is strange. */
+    /** The longest step of HOURS, and in how many of a hundred each number is strange, so that several can be. */
     private final int step;
     private final int strange;
     /** In a calm run the house stays as it was set up, and READINGS are of one set of CAUSES, so that sets FIT. */
@@ -25,7 +25,7 @@ final class RandomRunsTest {
     private RandomRunsTest(int seed) {
         random = new Random(seed);
         step = new int[] {2, 5, 20, 60}[seed % 4];
-        strange = new int[] {0, 3, 15}[seed % 3];
+        strange = seed % 11 == 0 ? 50 : new int[] {0, 3, 15}[seed % 3];
         calm = seed % 5 < 2;
         fitting = random.nextInt(64);
     }
@@ -94,10 +94,19 @@ final class RandomRunsTest {
 
     private int in(int least, int most) {
         if (random.nextInt(100) < strange) {
-            return random.nextBoolean() ? STRANGE[random.nextInt(STRANGE.length)] : most + 1;
+            return strangeNumber(least, most);
         }
         int pick = random.nextInt(10);
         return pick == 0 ? least : pick == 1 ? most : least + random.nextInt(most - least + 1);
+    }
+
+    private int strangeNumber(int least, int most) {
+        return switch (random.nextInt(5)) {
+            case 0, 1 -> STRANGE[random.nextInt(STRANGE.length)];
+            case 2 -> random.nextInt();
+            case 3 -> least - 1;
+            default -> most + 1;
+        };
     }
 
     private int flag() {
